@@ -126,11 +126,9 @@ public final class ContractMachine {
         0x8000000000008002L, 0x8000000000000080L, 0x000000000000800AL, 0x800000008000000AL,
         0x8000000080008081L, 0x8000000000008080L, 0x0000000080000001L, 0x8000000080008008L};
 
-    private final Bytes tape = new Bytes(TAPE_ROOM);
-    private final World world = new World();
-    private final Keccak hasher = new Keccak();
-    private final long[] surroundings = new long[7];
-    private final Machine machine = new Machine(world, tape, hasher, surroundings);
+    private final Machine machine = new Machine();
+    private final World world = machine.world;
+    private final Bytes tape = machine.tape;
     private final int[] tellings = new int[7];
     /** Room for a NUMBER or two that a call brings. */
     private final int[] brought = new int[2 * LIMBS];
@@ -213,7 +211,7 @@ public final class ContractMachine {
         if (what < 0 || what > 6) {
             throw new IllegalArgumentException();
         }
-        surroundings[what] = v;
+        machine.surroundings[what] = v;
     }
 
     public int run(long from, long to, long value, int gas)
@@ -247,7 +245,7 @@ public final class ContractMachine {
         if (what < 0 || what > 6) {
             throw new IllegalArgumentException();
         }
-        if (i < 0 || i >= logs.count || what - 3 >= logs.topicCounts[i]) {
+        if (i < 0 || i >= logs.count || what >= 3 + logs.topicCounts[i]) {
             throw new NoSuchElementException();
         }
         switch (what) {
@@ -303,7 +301,7 @@ public final class ContractMachine {
         if (part < 0 || part > 3) {
             throw new IllegalArgumentException();
         }
-        hasher.digest(tape.cells, 0, tape.length, brought, 0);
+        machine.hasher.digest(tape.cells, 0, tape.length, brought, 0);
         return Numbers.part(brought, 0, part);
     }
 
@@ -360,9 +358,9 @@ public final class ContractMachine {
             s[o + 7] = (int) (highest >>> 32);
         }
 
-        static void setAddress(int[] s, int o, int[] address) {
-            System.arraycopy(address, 0, s, o, ADDRESS_LIMBS);
-            Arrays.fill(s, o + ADDRESS_LIMBS, o + LIMBS, 0);
+        static void copyAddress(int[] from, int at, int[] to, int o) {
+            System.arraycopy(from, at, to, o, ADDRESS_LIMBS);
+            Arrays.fill(to, o + ADDRESS_LIMBS, o + LIMBS, 0);
         }
 
         static void copy(int[] from, int at, int[] to, int o) {
@@ -1141,12 +1139,13 @@ public final class ContractMachine {
 
     /** A MESSAGE on its way; one for each DEPTH is made once and used again. */
     private static final class Frame {
+        /** ADDRESSES as NUMBERS, so that they can come to the STACK as they are. */
         final int[] sender = new int[LIMBS];
         final int[] address = new int[LIMBS];
         final int[] value = new int[LIMBS];
         /** The row of the ACCOUNT at its ADDRESS; -1 only if there is none, and then there is no CODE to do. */
         int self;
-        Program program;
+        Program program = new Program();
         boolean isStatic;
         long gas;
         int place;
@@ -1160,10 +1159,6 @@ public final class ContractMachine {
         int roomLength;
         /** What REFUND and the lists of changes were before it. */
         final int[] marks = new int[6];
-
-        Frame(Program program) {
-            this.program = program;
-        }
 
         int nextByte() {
             return place < program.length ? program.cells[place] & 255 : STOP;
@@ -1195,10 +1190,10 @@ public final class ContractMachine {
 
     /** Does RUNS, step by step. */
     private static final class Machine {
-        private final World world;
-        private final Bytes tape;
-        private final Keccak hasher;
-        private final long[] surroundings;
+        final World world = new World();
+        final Bytes tape = new Bytes(TAPE_ROOM);
+        final Keccak hasher = new Keccak();
+        final long[] surroundings = new long[7];
         private final Sums sums = new Sums();
         final Frame[] frames = new Frame[DEEPEST + 1];
         /** The MEMORY of all open MESSAGES, each behind its caller's. */
@@ -1212,13 +1207,9 @@ public final class ContractMachine {
         int outcome;
         boolean limitPassed;
 
-        Machine(World world, Bytes tape, Keccak hasher, long[] surroundings) {
-            this.world = world;
-            this.tape = tape;
-            this.hasher = hasher;
-            this.surroundings = surroundings;
+        Machine() {
             for (int k = 0; k <= DEEPEST; k++) {
-                frames[k] = new Frame(world.nothing);
+                frames[k] = new Frame();
             }
         }
 
@@ -1250,6 +1241,7 @@ public final class ContractMachine {
             return depth >= 0 && !limitPassed;
         }
 
+        /** Does one step; here and below steps go by their bytes, as the document lists them. */
         void step() {
             Frame f = frames[depth];
             int op = f.nextByte();
@@ -1351,13 +1343,13 @@ public final class ContractMachine {
             int[] s = f.stack;
             int next = a + LIMBS;
             switch (op) {
-                case 0x30: Numbers.setAddress(s, next, f.address); break;
-                case 0x32: Numbers.setAddress(s, next, frames[0].sender); break;
-                case 0x33: Numbers.setAddress(s, next, f.sender); break;
+                case 0x30: Numbers.copy(f.address, 0, s, next); break;
+                case 0x32: Numbers.copy(frames[0].sender, 0, s, next); break;
+                case 0x33: Numbers.copy(f.sender, 0, s, next); break;
                 case 0x34: Numbers.copy(f.value, 0, s, next); break;
                 case 0x35: loadData(f, a); break;
                 case 0x36: Numbers.set(s, next, 0, f.dataLength); break;
-                case 0x37: copyToMemory(f, a, dataOf(f), f.dataFrom, f.dataLength); break;
+                case 0x37: copyToMemory(f, a, dataSource(), f.dataFrom, f.dataLength); break;
                 case 0x38: Numbers.set(s, next, 0, f.program.length); break;
                 case 0x39: copyToMemory(f, a, f.program.cells, 0, f.program.length); break;
                 case 0x3A: Numbers.set(s, next, 0, surroundings[0]); break;
@@ -1614,10 +1606,7 @@ public final class ContractMachine {
             Frame to = frames[depth + 1];
             boolean isHere = op == CALLCODE || op == DELEGATECALL;
             Numbers.copy(op == DELEGATECALL ? f.sender : f.address, 0, to.sender, 0);
-            Numbers.setAddress(to.address, 0, f.address);
-            if (!isHere) {
-                System.arraycopy(s, b, to.address, 0, ADDRESS_LIMBS);
-            }
+            Numbers.copyAddress(isHere ? f.address : s, isHere ? 0 : b, to.address, 0);
             setValue(f, to, op, b - LIMBS);
             to.isStatic = f.isStatic || op == STATICCALL;
             to.gas = gas;
@@ -1747,13 +1736,14 @@ public final class ContractMachine {
             return n == 0 ? f.memoryFrom : f.memoryFrom + (int) from;
         }
 
-        private byte[] dataOf(Frame f) {
-            return f == frames[0] ? tape.cells : memory;
+        /** Where DATA of the innermost MESSAGE stands: its caller's MEMORY does not change meanwhile. */
+        private byte[] dataSource() {
+            return depth == 0 ? tape.cells : memory;
         }
 
         private void loadData(Frame f, int a) {
             long from = Math.min(Numbers.small(f.stack, a), f.dataLength);
-            Numbers.read(dataOf(f), f.dataFrom + (int) from, f.dataFrom + f.dataLength, 32, f.stack, a);
+            Numbers.read(dataSource(), f.dataFrom + (int) from, f.dataFrom + f.dataLength, 32, f.stack, a);
         }
 
         private void copyReturned(Frame f, int a) {

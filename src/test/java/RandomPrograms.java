@@ -101,7 +101,7 @@ final class RandomPrograms {
     }
 
     private void piece() {
-        switch (random.nextInt(21)) {
+        switch (random.nextInt(22)) {
             case 0: case 1: sum(); break;
             case 2: giver(); break;
             case 3: push(number()); pushSmall(); out.write(random.nextInt(4) == 0 ? 0x53 : 0x52); break;
@@ -115,6 +115,7 @@ final class RandomPrograms {
             case 17: jump(); break;
             case 18: pushSmall(); pushSmall(); out.write(0x20); keep(); break;
             case 19: shuffle(); break;
+            case 20: loop(1 + random.nextInt(30)); break;
             default: rare(); break;
         }
     }
@@ -226,6 +227,77 @@ final class RandomPrograms {
             out.write(0x5B);
             out.write(0x50);
         }
+    }
+
+    private void loop(int times) {
+        push(times);
+        int start = out.size();
+        out.write(0x5B);
+        switch (random.nextInt(4)) {
+            case 0: call(); break;
+            case 1: log(); break;
+            case 2: sum(); break;
+            default: sstore(); break;
+        }
+        out.write(0x60);
+        out.write(1);
+        out.write(0x90);
+        out.write(0x03);
+        loopBack(start);
+    }
+
+    private void loopBack(int start) {
+        out.write(0x80);
+        out.write(0x61);
+        out.write(start >> 8);
+        out.write(start);
+        out.write(0x57);
+    }
+
+    /** For k = times .. 1: something that uses k and comes near a LIMIT. */
+    byte[] greedy(int kind, int times) {
+        out = new ByteArrayOutputStream();
+        push(times);
+        int start = out.size();
+        out.write(0x5B);
+        int base = random.nextInt(40);
+        switch (kind) {
+            case 0: // k at place base + k
+                out.write(0x80);
+                out.write(0x80);
+                push(base);
+                out.write(0x01);
+                out.write(0x55);
+                break;
+            case 1: // a LOG of so many bytes
+                push(random.nextInt(50));
+                push(random.nextInt(50));
+                out.write(0xA0);
+                break;
+            default: // 1 to the ACCOUNT base + 100 + k
+                for (int k = 0; k < 4; k++) {
+                    push(0);
+                }
+                push(1);
+                out.write(0x85);
+                push(base + 100);
+                out.write(0x01);
+                push(random.nextInt(3) * 5000);
+                out.write(0xF1);
+                out.write(0x50);
+                break;
+        }
+        out.write(0x60);
+        out.write(1);
+        out.write(0x90);
+        out.write(0x03);
+        loopBack(start);
+        switch (random.nextInt(4)) {
+            case 0: push(0); push(0); out.write(0xFD); break;
+            case 1: pushAddress(); out.write(0xFF); break;
+            default: break;
+        }
+        return out.toByteArray();
     }
 
     private void shuffle() {

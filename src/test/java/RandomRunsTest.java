@@ -19,7 +19,7 @@ public final class RandomRunsTest {
                 break;
             }
         }
-        System.out.println("FAILED " + ends[0] + ", succeeded " + ends[1] + ", by REVERT " + ends[2] + ", IOOBE "
+        System.out.println("RUNS: 0 " + ends[0] + ", 1 " + ends[1] + ", 2 " + ends[2] + ", IOOBE "
             + ends[3] + ", UOE " + ends[4] + ", steps " + ends[5]);
         check.finish("RandomRunsTest");
     }
@@ -35,9 +35,16 @@ public final class RandomRunsTest {
                 both.environment(k, random.nextLong() >>> random.nextInt(64));
             }
         }
+        both.balance(1, random.nextInt(2), 5000);
+        both.balance(2, 0, 1000);
+        int greed = random.nextInt(6);
+        fill(both, random, greed);
         int rounds = 4 + random.nextInt(8);
         for (int k = 0; k < rounds; k++) {
             prepare(both, random, programs);
+            if (greed < 3 && random.nextInt(3) != 0) {
+                both.code(3 + random.nextInt(3), programs.greedy(greed, 1 + random.nextInt(greed == 1 ? 260 : 10)));
+            }
             both.tape(programs.noise(random.nextInt(4) == 0 ? 700 : 70));
             long from = ADDRESSES[random.nextInt(4)];
             long to = ADDRESSES[random.nextInt(ADDRESSES.length - 1)];
@@ -48,6 +55,27 @@ public final class RandomRunsTest {
             ends[5] += both.y.told(3);
             both.askAboutRun();
             both.askAboutWorld(ADDRESSES, PLACES);
+        }
+    }
+
+    /** Comes near a LIMIT, or passes it. */
+    private static void fill(Both both, Random random, int greed) {
+        if (greed == 0) {
+            int many = 370 + random.nextInt(35);
+            for (int k = 0; k < many; k++) {
+                both.store(2 + k % 5, k / 5, 0, 1 + k);
+            }
+        }
+        if (greed == 2) {
+            int many = 48 + random.nextInt(20);
+            for (int k = 0; k < many; k++) {
+                long address = 90 + k + random.nextInt(2);
+                switch (random.nextInt(3)) {
+                    case 0: both.balance(address, 0, random.nextInt(4)); break;
+                    case 1: both.store(address, 0, 0, random.nextInt(4)); break;
+                    default: both.code(address, new byte[random.nextInt(4)]); break;
+                }
+            }
         }
     }
 
