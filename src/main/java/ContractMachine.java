@@ -929,17 +929,13 @@ public final class ContractMachine {
             }
         }
 
-        /** The row of the ACCOUNT, a new one if need be; -1 if that passes the LIMIT. */
+        /**
+         * The row of the ACCOUNT, a new one if need be; -1 if that passes the LIMIT. A new row has nothing:
+         * one that was cut off with a RUN that threw had its changes taken back before.
+         */
         int openAccount(int[] s, int o) {
             int who = addresses.find(s, o);
-            if (who < 0) {
-                who = addresses.add(s, o);
-                if (who >= 0) {
-                    Numbers.clear(values, who * LIMBS);
-                    accounts[who].setProgram(nothing.cells, 0);
-                }
-            }
-            return who;
+            return who < 0 ? addresses.add(s, o) : who;
         }
 
         Program programOf(int who) {
@@ -974,14 +970,7 @@ public final class ContractMachine {
         /** The row of the place, a new one if need be; -1 if that passes the LIMIT. */
         int openPlace(int who, int[] s, int o) {
             int place = findPlace(who, s, o);
-            if (place < 0) {
-                place = places.add(key, 0);
-                if (place >= 0) {
-                    Numbers.clear(values, (MOST_ACCOUNTS + place) * LIMBS);
-                    Numbers.clear(originals, (MOST_ACCOUNTS + place) * LIMBS);
-                }
-            }
-            return place;
+            return place < 0 ? places.add(key, 0) : place;
         }
 
         /** Whether a NUMBER that is not 0 can come to the place without passing a LIMIT. */

@@ -140,6 +140,10 @@ public final class LimitTest {
         check.thrown("what is gone counts on", LIMIT, () -> z.store(2, 1, 0, 1));
         z.store(2, 1000, 0, 3);
         check.same("so it can be again", z.stored(2, 0, 0, 0, 1000, 3), 3);
+        ContractMachine v = stored(400, "6009FF");
+        check.same("SELFDESTRUCT with 400", Check.run(v, 1, 2, 0, 199999), 1);
+        check.same("of another", v.stored(3, 0, 0, 0, 1001, 3), 1);
+        check.same("its own", v.stored(2, 0, 0, 0, 1000, 3), 0);
     }
 
     /** So many LOGS of so many bytes each, then something more. */

@@ -302,7 +302,7 @@ final class RandomPrograms {
 
     private void shuffle() {
         for (int k = 0; k < 3 + random.nextInt(17); k++) {
-            push(random.nextInt(200));
+            push(number());
         }
         for (int k = 0; k < 6; k++) {
             out.write(0x80 + random.nextInt(32) % (16 + random.nextInt(17)) % 32);

@@ -22,6 +22,7 @@ public final class RunTest {
         data(check);
         jumps(check);
         stack(check);
+        everyDepth(check);
         noSuchSteps(check);
         check.finish("RunTest");
     }
@@ -182,6 +183,7 @@ public final class RunTest {
             {PUSH_ALL + "600052 6008 6001 6000 37 600051", "2233440000000000"},
             {PUSH_ALL + "600052 6006 6002 6000 37 600051", "334400000000FFFF"},
             {"6003" + PUSH_ALL + "6000 37 600051", "0"},
+            {"6001 6002 6007 37 600051", "33"},
             {"6004 6000 6000 39 600051", "6004600000000000"},
             {"6003 6030 6000 39 600051", "0"}};
         for (String[] one : cases) {
@@ -210,6 +212,12 @@ public final class RunTest {
         }
         tell(check, x, "60FF 50 6001", 1);
         check.same("too few NUMBERS", ends(x, "600052 60206000F3"), 0);
+        // what an earlier CODE had behind the end of this one is no JUMPDEST
+        ends(x, "5B".repeat(2048));
+        check.same("to the end of the CODE", ends(x, "6003 56"), 0);
+        check.same("behind it", ends(x, "6004 56"), 0);
+        check.same("to the end of the longest", ends(x, "610800 56" + "5B".repeat(2044)), 0);
+        check.same("to its last byte", ends(x, "6107FF 56" + "5B".repeat(2044)), 1);
     }
 
     private static void stack(Check check) {
@@ -249,6 +257,36 @@ public final class RunTest {
             check.same("DUP" + n, ends(x, some.substring(4) + dup), 0);
             check.same("SWAP" + n, ends(x, some + "6001" + swap), 1);
             check.same("SWAP" + n, ends(x, some + swap), 0);
+        }
+    }
+
+    /** All that stands on the STACK behind DUP and SWAP, with NUMBERS that differ in every byte. */
+    private static void everyDepth(Check check) {
+        for (int op = 0x80; op <= 0x9F; op++) {
+            ContractMachine x = new ContractMachine();
+            int depth = (op & 15) + 1;
+            StringBuilder code = new StringBuilder();
+            for (int k = 17; k >= 1; k--) {
+                code.append("7F").append(String.format("%02X", 0x80 + k).repeat(32));
+            }
+            code.append(String.format("%02X", op));
+            int many = op < 0x90 ? 18 : 17;
+            for (int k = 0; k < many; k++) {
+                code.append(String.format("61%04X52", 32 * k));
+            }
+            code.append(String.format("61%04X6000F3", 32 * many));
+            Check.code(x, 2, code.toString());
+            check.same("succeeds", Check.run(x, 1, 2, 0, 5000), 1);
+            check.same("one more is too many", ends(x, code.substring(0, code.length() - 12) + "50"), 0);
+            Check.code(x, 2, code.toString());
+            Check.run(x, 1, 2, 0, 5000);
+            for (int k = 0; k < many; k++) {
+                int due = op < 0x90 ? k == 0 ? depth : k : k == 0 ? depth + 1 : k == depth ? 1 : k + 1;
+                for (int j = 0; j < 32; j += 8) {
+                    check.same(String.format("%02X, NUMBER %d", op, k), x.word(32 * k + j),
+                        0x0101010101010101L * (0x80 + due));
+                }
+            }
         }
     }
 

@@ -152,6 +152,11 @@ public final class StorageTest {
         check.same("by REVERT", Check.run(x, 1, 2, 0, 199999), 2);
         check.same("REFUND", x.told(1), 0);
         check.same("CODE stays", x.codeSize(3), 3);
+        Check.code(x, 4, "FE");
+        Check.code(x, 2, call + "6000 6000 6000 6000 6000 6004 61FFFF F1");
+        check.same("one that FAILS behind it", Check.run(x, 1, 2, 0, 199999), 1);
+        check.same("leaves it DESTROYED", x.codeSize(3), 0);
+        check.same("REFUND", x.told(1), 24000);
         // what a DESTROYED one gets afterwards is lost: with DATA it only takes what comes
         x.balance(2, 0, 10);
         Check.code(x, 3, "36 600757 6009FF 5B");

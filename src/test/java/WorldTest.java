@@ -94,6 +94,9 @@ public final class WorldTest {
             long[] q = p.clone();
             q[part]++;
             check.same("beside it", x.stored(3, q[0], q[1], q[2], q[3], part), 0);
+            q = p.clone();
+            q[part] ^= 1L << 63;
+            check.same("far from it", x.stored(3, q[0], q[1], q[2], q[3], part), 0);
         }
     }
 
