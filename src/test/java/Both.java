@@ -1,6 +1,9 @@
 import java.util.Arrays;
 
-/** Calls the class and the reference alike and complains where they part. */
+/**
+ * Calls the class and the reference alike and complains where they part. What comes after 512 calls is free by the
+ * document, but the class does not count them, so a long life is compared to its end.
+ */
 final class Both {
     final ContractMachine x = new ContractMachine();
     final ReferenceMachine y = new ReferenceMachine();

@@ -47,18 +47,25 @@ public final class CallTest {
             check.same(ops[k] + " succeeded", x.stored(2, 0, 0, 0, 0, 3), 1);
             for (int p = 1; p <= 4; p++) {
                 check.same(ops[k] + " place " + p, x.stored(due[k][0], 0, 0, 0, p, 3), due[k][p]);
+                for (int part = 0; part < 3; part++) {
+                    check.same(ops[k] + " place " + p, x.stored(due[k][0], 0, 0, 0, p, part), 0);
+                }
             }
             check.same(ops[k] + " BALANCE", x.balanceOf(2, 3), k == 0 ? 4 : 9);
             check.same(ops[k] + " BALANCE", x.balanceOf(3, 3), k == 0 ? 5 : 0);
         }
         ContractMachine x = new ContractMachine();
         Check.code(x, 3, "30600052 33602052 34604052 32606052 60806000F3");
-        Check.code(x, 2, "6080 6000 6000 6000 6003 61FFFF FA 50 60806000F3");
+        // a CALL with a value and an ADDRESS of more than 160 bits goes before it
+        String address = "7F" + "FF".repeat(12) + "00".repeat(19) + "03";
+        Check.code(x, 2, "6080 6080 6000 6000 6005" + address + "61FFFF F1 50"
+            + "6080 6000 6000 6000" + address + "61FFFF FA 50 61 0100 6000F3");
         x.balance(1, 0, 100);
-        Check.run(x, 1, 2, 9, 199999);
-        long[] told = {3, 2, 0, 1};
-        for (int k = 0; k < 4; k++) {
-            check.same("FA " + k, x.word(32 * k + 24), told[k]);
+        check.same("run", Check.run(x, 1, 2, 9, 199999), 1);
+        long[] told = {3, 2, 0, 1, 3, 2, 5, 1};
+        for (int k = 0; k < 8; k++) {
+            check.same("number " + k, x.word(32 * k + 24), told[k]);
+            check.same("number " + k + " high", x.word(32 * k) | x.word(32 * k + 8) | x.word(32 * k + 16), 0);
         }
     }
 
@@ -229,6 +236,9 @@ public final class CallTest {
             check.same("RETURNED of the latest", x.word(88), one[3]);
             check.same("room keeps what came before", x.word(0), one[3] == 0 ? 0x00A1A20000000000L : one[1]);
         }
+        Check.code(x, 2, "6001 6005 6000 6000 6003 613000 FA 50 60206000F3");
+        Check.run(x, 1, 2, 0, 199999);
+        check.same("room for one byte", x.word(0), 0x0000000000A10000L);
         Check.code(x, 2, "60FF6000 53 6040 6000 6000 6000 6003 613000 FA 50 60406000F3");
         Check.run(x, 1, 2, 0, 199999);
         check.same("less than there is room for", x.word(0), 0xA1A2A3A400000000L);

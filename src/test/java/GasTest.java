@@ -90,7 +90,8 @@ public final class GasTest {
             "6001" + FAR + "52", "6001" + FAR + "53", "6001 63FFFFFFFF 53", "6001" + FAR + "F3", FAR + "6001 F3",
             FAR + "6001 20", "6001" + FAR + "A0", FAR + FAR + "F3", FAR + "6001 A0", FAR + "60006000 37",
             FAR + "60006000 39", "6001 6000" + FAR + "37", "67 8000000000000000 51", "67 FFFFFFFFFFFFFFE0 51",
-            "6801 0000000000000000 51"};
+            "6801 0000000000000000 51", "6001 6000 62FFFFFF 37", "6001 6000 62FFFFFF 39", "6001 63FFFFFFFF F3",
+            "6001 62FFFFFF 20", "6001 62FFFFFF A0", "6001 62FFFFFF FD", "6001 6000 62FFFFFF 6002 3C"};
         for (String hex : far) {
             Check.code(x, 2, hex);
             check.same(hex, Check.run(x, 1, 2, 0, 200000), 0);

@@ -8,6 +8,7 @@ final class RandomPrograms {
         0x18, 0x1A, 0x1B, 0x1C, 0x1D};
     private static final int[] GIVERS = {0x30, 0x32, 0x33, 0x34, 0x36, 0x38, 0x3A, 0x3D, 0x41, 0x42, 0x43, 0x44,
         0x45, 0x46, 0x47, 0x58, 0x59, 0x5A};
+    private static final long[] EDGES = {0, 1, 2, 3, 0x7FFFFFFFL, 0x80000000L, 0x80000001L, 0xFFFFFFFEL, 0xFFFFFFFFL};
     private static final int[] CALLS = {0xF1, 0xF1, 0xF2, 0xF4, 0xFA};
 
     private final Random random;
@@ -39,13 +40,12 @@ final class RandomPrograms {
         }
     }
 
-    /** Limbs of all ones and zeros are where a division guesses wrongly. */
-    private BigInteger limbs() {
+    /** Such limbs are where a division guesses wrongly. */
+    BigInteger limbs() {
         BigInteger n = BigInteger.ZERO;
         for (int k = 0; k < 8; k++) {
-            long limb = random.nextInt(3) == 0 ? random.nextInt() & 0xFFFFFFFFL
-                : random.nextBoolean() ? 0xFFFFFFFFL - random.nextInt(2) : random.nextInt(2);
-            n = n.shiftLeft(32).or(BigInteger.valueOf(random.nextInt(5) == 0 ? 0x80000000L : limb));
+            long limb = random.nextInt(5) == 0 ? random.nextInt() & 0xFFFFFFFFL : EDGES[random.nextInt(EDGES.length)];
+            n = n.shiftLeft(32).or(BigInteger.valueOf(limb));
         }
         return n.shiftRight(32 * random.nextInt(8));
     }

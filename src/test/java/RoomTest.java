@@ -67,15 +67,15 @@ public final class RoomTest {
         ContractMachine x = new ContractMachine();
         Check.code(x, 2, "600035 6000 F3");
         long used = 0;
-        for (int k = 0; k < 250; k++) {
+        for (int k = 0; k < 125; k++) {
             x.feed(0, 0, 0, 0, 0);
-            x.feed(0, 0, 1000 + 1190 * k, 0, 0);
+            x.feed(0, 0, 1000 + 2380 * k, 0, 0);
             x.end(32);
             long before = allocated();
             x.run(1, 2, 0, 200000);
             used += allocated() - before;
         }
-        check.same("the last", x.told(4), 1000 + 1190 * 249);
+        check.same("the last", x.told(4), 1000 + 2380 * 124);
         check.same("growing takes " + used, used < ROOM ? 1 : 0, 1);
     }
 

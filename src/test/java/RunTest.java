@@ -20,6 +20,8 @@ public final class RunTest {
         thrownRunsChangeNothing(check);
         words(check);
         data(check);
+        cutData(check);
+        oneByte(check);
         jumps(check);
         stack(check);
         everyDepth(check);
@@ -192,6 +194,33 @@ public final class RunTest {
             check.same(one[0], x.run(1, 2, 0, 1000), 1);
             check.same(one[0], x.word(0), Long.parseUnsignedLong(one[1], 16));
         }
+    }
+
+    /** Bytes that were cut off the TAPE are not DATA. */
+    private static void cutData(Check check) {
+        ContractMachine x = new ContractMachine();
+        String[] reads = {"600035", "6020 6000 6000 37 600051"};
+        for (String read : reads) {
+            Check.code(x, 2, read + TELL);
+            x.feed(-1, -1, -1, -1, -1);
+            x.end(3);
+            x.run(1, 2, 0, 1000);
+            check.same(read, x.word(0), 0xFFFFFF0000000000L);
+        }
+    }
+
+    private static void oneByte(Check check) {
+        ContractMachine x = new ContractMachine();
+        Check.code(x, 2, "61 1234 6000 53 61 5678 6002 53 60036000F3");
+        check.same("MSTORE8", Check.run(x, 1, 2, 0, 1000), 1);
+        check.same("MSTORE8", x.word(0), 0x3400780000000000L);
+        Check.code(x, 2, "61 1256 6003 53 60016003F3");
+        check.same("a RESULT of one byte", Check.run(x, 1, 2, 0, 1000), 1);
+        check.same("a RESULT of one byte", x.word(0), 0x5600000000000000L);
+        Check.code(x, 2, "60016000A0 60996000 53 60016000A0");
+        check.same("LOGS of one byte", Check.run(x, 1, 2, 0, 1000), 1);
+        check.same("LOGS of one byte", x.logWord(0, 0), 0);
+        check.same("LOGS of one byte", x.logWord(1, 0), 0x9900000000000000L);
     }
 
     private static void jumps(Check check) {

@@ -157,6 +157,17 @@ public final class StorageTest {
         check.same("one that FAILS behind it", Check.run(x, 1, 2, 0, 199999), 1);
         check.same("leaves it DESTROYED", x.codeSize(3), 0);
         check.same("REFUND", x.told(1), 24000);
+        Check.code(x, 3, "6009FF");
+        Check.code(x, 4, "6000 6000 6000 6000 6000 6003 61FFFF F1 60006000FD");
+        Check.code(x, 2, "6000 6000 6000 6000 6000 6004 61FFFF F1");
+        check.same("DESTROYED within what is taken back", Check.run(x, 1, 2, 0, 199999), 1);
+        check.same("CODE stays", x.codeSize(3), 3);
+        check.same("REFUND", x.told(1), 0);
+        x.balance(3, 0, 5);
+        Check.code(x, 3, "30FF");
+        Check.code(x, 2, "6000 6000 6000 6000 6000 6003 61FFFF F1 50 600331 600052 60206000F3");
+        check.same("to itself", Check.run(x, 1, 2, 0, 199999), 1);
+        check.same("it is gone at once", x.word(24), 0);
         // what a DESTROYED one gets afterwards is lost: with DATA it only takes what comes
         x.balance(2, 0, 10);
         Check.code(x, 3, "36 600757 6009FF 5B");

@@ -118,10 +118,9 @@ public final class SumsTest {
         some.add(n("FFFFFFFE00000001FFFFFFFFFFFFFFFF0000000000000001"));
         some.add(BigInteger.valueOf(30));
         some.add(BigInteger.valueOf(256));
-        Both both = new Both(check, "edges");
         for (BigInteger a : some) {
             for (BigInteger b : some) {
-                compareAll(both, a, b, a.xor(b).shiftRight(3));
+                compareAll(new Both(check, "edges"), a, b, a.xor(b).shiftRight(3));
             }
         }
     }
@@ -129,9 +128,9 @@ public final class SumsTest {
     private static void chance(Check check) {
         Random random = new Random(11);
         RandomPrograms programs = new RandomPrograms(random, new long[] {1});
-        Both both = new Both(check, "chance");
         for (int k = 0; k < 4000; k++) {
-            compareAll(both, programs.number(), programs.number(), programs.number());
+            compareAll(new Both(check, "chance"), programs.number(), programs.number(), programs.number());
+            compareAll(new Both(check, "limbs"), programs.limbs(), programs.limbs(), programs.limbs());
         }
     }
 

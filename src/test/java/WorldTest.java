@@ -16,6 +16,7 @@ public final class WorldTest {
         accounts(check);
         places(check);
         countedOnce(check);
+        askingCountsNothing(check);
         check.finish("WorldTest");
     }
 
@@ -161,6 +162,17 @@ public final class WorldTest {
         }
         check.thrown("the place that failed opened no ACCOUNT", LIMIT, () -> x.balance(2000, 0, 1));
         check.same("60 and the four that store", x.balanceOf(1059, 3), 1);
+    }
+
+    private static void askingCountsNothing(Check check) {
+        ContractMachine x = new ContractMachine();
+        for (int k = 0; k < 70; k++) {
+            check.same("asked", x.balanceOf(k, 3) + x.codeSize(k) + x.stored(k, 0, 0, 0, 0, 3), 0);
+        }
+        for (int k = 0; k < 64; k++) {
+            x.balance(500 + k, 0, 1);
+        }
+        check.same("the 64th", x.balanceOf(563, 3), 1);
     }
 
     private static void countedOnce(Check check) {
