@@ -618,7 +618,6 @@ public final class ContractMachine {
                 int high = k < m ? wide[k + 1] : 0;
                 wide[k] = wide[k] >>> shift | high << 32 - shift;
             }
-            Arrays.fill(wide, m, wide.length, 0);
         }
 
         private static int length(int[] row, int most) {

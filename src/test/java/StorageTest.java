@@ -168,6 +168,11 @@ public final class StorageTest {
         Check.code(x, 2, "6000 6000 6000 6000 6000 6003 61FFFF F1 50 600331 600052 60206000F3");
         check.same("to itself", Check.run(x, 1, 2, 0, 199999), 1);
         check.same("it is gone at once", x.word(24), 0);
+        x.balance(3, 0, 5);
+        Check.code(x, 3, "30FF");
+        Check.code(x, 2, "6000 6000 6000 6000 6000 6004 61FFFF F1");
+        check.same("to itself, taken back", Check.run(x, 1, 2, 0, 199999), 1);
+        check.same("its BALANCE stays", x.balanceOf(3, 3), 5);
         // what a DESTROYED one gets afterwards is lost: with DATA it only takes what comes
         x.balance(2, 0, 10);
         Check.code(x, 3, "36 600757 6009FF 5B");
