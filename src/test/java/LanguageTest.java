@@ -7,10 +7,19 @@ import java.util.regex.Pattern;
 
 /** Rules of LANGUAGE.md that can be seen from the text of the class; its path is the argument. */
 public final class LanguageTest {
-    private static final String[] FORBIDDEN = {"->", "::", "synchronized", "assert", "finally", "try", "catch",
-        "instanceof", "native", "volatile", "transient", "package", "protected", "var", "record", "Object", "extends",
-        "implements", "hashCode", "toString", "getMessage", "System.out", "System.nanoTime", "Random", "Thread",
-        "Exact", "String", "NaN", "lambda", "Long.", "Integer.", "double", "float"};
+    /** Rules 2, 4, 6, 13: patterns that no line may have. */
+    private static final String[] FORBIDDEN = {"::", "\\bsynchronized\\b", "\\bassert\\b", "\\bfinally\\b", "\\btry \\(",
+        "\\bprotected\\b", "^package\\b", "\\bhashCode\\b", "\\bgetMessage\\b", "\\w+Exact\\b", "\\bNaN\\b", "\\bRandom\\b",
+        "\\bThread\\b", "\\bnative\\b", "\\bClass\\b", "\\bObject\\b", "\\bstatic \\{"};
+    /** Rule 4: what of the library may be called. */
+    private static final List<String> SYSTEM = List.of("arraycopy");
+    private static final List<String> ARRAYS = List.of("copyOf", "copyOfRange", "fill");
+    private static final List<String> IMPORTS = List.of("Arrays", "ArrayList", "List", "Iterator",
+        "NoSuchElementException");
+    /** Rule 6: what may be thrown. */
+    private static final List<String> THROWN = List.of("IllegalStateException", "IllegalArgumentException",
+        "IndexOutOfBoundsException", "ArithmeticException", "UnsupportedOperationException", "NoSuchElementException",
+        "RuntimeException", "java.util.NoSuchElementException");
     private static final int MOST_LINES = 60;
 
     private LanguageTest() {
@@ -19,9 +28,13 @@ public final class LanguageTest {
     public static void main(String[] args) throws IOException {
         Check check = new Check();
         List<String> lines = Files.readAllLines(Path.of(args[0]));
-        words(check, lines);
-        library(check, lines);
-        statics(check, lines);
+        for (int k = 0; k < lines.size(); k++) {
+            String line = bare(lines.get(k));
+            words(check, line, k + 1);
+            library(check, line);
+            thrown(check, line);
+            statics(check, line);
+        }
         methods(check, lines);
         check.finish("LanguageTest");
     }
@@ -31,39 +44,38 @@ public final class LanguageTest {
         return text.startsWith("/*") || text.startsWith("*") || text.startsWith("//") ? "" : line;
     }
 
-    private static void words(Check check, List<String> lines) {
-        for (int k = 0; k < lines.size(); k++) {
-            for (String word : FORBIDDEN) {
-                String sought = word.matches("\\w+") ? "\\b" + word + "\\b" : Pattern.quote(word);
-                if (Pattern.compile(sought).matcher(bare(lines.get(k))).find()) {
-                    check.complain("line " + (k + 1) + " has " + word);
-                }
-            }
-            check.same("line " + (k + 1) + " is short", lines.get(k).length() <= 120 ? 0 : 1, 0);
+    private static void words(Check check, String line, int number) {
+        for (String pattern : FORBIDDEN) {
+            check.same("line " + number + " has " + pattern, Pattern.compile(pattern).matcher(line).find() ? 1 : 0, 0);
+        }
+        boolean isLambda = line.contains("->") && !line.matches("\\s*(case|default)\\b.*");
+        check.same("line " + number + " has a lambda", isLambda ? 1 : 0, 0);
+    }
+
+    private static void library(Check check, String line) {
+        if (line.startsWith("import ")) {
+            String name = line.substring("import ".length(), line.length() - 1);
+            boolean known = name.startsWith("java.util.") && IMPORTS.contains(name.substring("java.util.".length()));
+            check.same(line, known ? 0 : 1, 0);
+        }
+        Matcher found = Pattern.compile("\\b(System|Arrays)\\.(\\w+)").matcher(line);
+        while (found.find() && !line.startsWith("import ")) {
+            List<String> known = found.group(1).equals("System") ? SYSTEM : ARRAYS;
+            check.same(found.group(), known.contains(found.group(2)) ? 0 : 1, 0);
         }
     }
 
-    private static void library(Check check, List<String> lines) {
-        Pattern call = Pattern.compile("\\b(System|Arrays|Math)\\.(\\w+)");
-        for (String line : lines) {
-            if (line.startsWith("import ") && !line.equals("import java.util.Arrays;")
-                    && !line.equals("import java.util.NoSuchElementException;")) {
-                check.complain(line);
-            }
-            Matcher found = call.matcher(bare(line));
-            while (found.find()) {
-                boolean known = List.of("arraycopy", "copyOf", "fill", "min", "max").contains(found.group(2));
-                check.same(found.group(), known ? 0 : 1, 0);
-            }
+    private static void thrown(Check check, String line) {
+        Matcher found = Pattern.compile("\\bthrow\\b(.*)").matcher(line);
+        while (found.find()) {
+            Matcher made = Pattern.compile(" new ([\\w.]+)\\((\"[^\"]*\")?\\);").matcher(found.group(1));
+            check.same(line, made.matches() && THROWN.contains(made.group(1)) ? 0 : 1, 0);
         }
     }
 
-    private static void statics(Check check, List<String> lines) {
-        for (String line : lines) {
-            boolean isField = line.contains(" static ") && !line.contains("(") && !line.contains(" class ");
-            check.same(line, isField && !line.contains(" final ") ? 1 : 0, 0);
-            check.same(line, line.strip().equals("static {") ? 1 : 0, 0);
-        }
+    private static void statics(Check check, String line) {
+        boolean isField = line.matches(".*\\bstatic\\b[^(={]*\\w\\s*[=;].*");
+        check.same(line, isField && !line.contains(" final ") ? 1 : 0, 0);
     }
 
     private static void methods(Check check, List<String> lines) {

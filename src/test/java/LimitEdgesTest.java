@@ -364,6 +364,12 @@ public final class LimitEdgesTest {
         check.same("200 LOGS", x.told(2), 200);
         check.same("the last of them", x.log(199, 0), 2);
         check.thrown("no more", NoSuchElementException.class, () -> x.log(200, 0));
+        check.thrown("no more", NoSuchElementException.class, () -> x.logWord(200, 0));
+        Check.code(x, 2, logging(199, 0, 0) + Code.step(0xA4, 0, 2, 11, 12, 13, 14));
+        check.same("the 200th with four TOPICS", run(x), 1);
+        for (int k = 1; k <= 4; k++) {
+            check.same("its TOPIC " + k, x.log(199, 2 + k), 10 + k);
+        }
         check.same("of every RUN", run(x), 1);
         check.same("200 LOGS", x.told(2), 200);
         Check.code(x, 2, logging(201, 0, 0));

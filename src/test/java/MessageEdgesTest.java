@@ -29,6 +29,8 @@ public final class MessageEdgesTest {
         test.endings();
         test.endingsWithin();
         test.takenBackOrNot();
+        test.whatWasBeforeStays();
+        test.manyChangesTakenBack();
         test.tooFewAndTooMany();
         test.pushes();
         test.jumpsIntoPushes();
@@ -117,6 +119,54 @@ public final class MessageEdgesTest {
         }
     }
 
+    /** Taken back is what came in the MESSAGE alone: all is as it was before it, not as it was before the RUN. */
+    private void whatWasBeforeStays() {
+        for (String end : new String[] {"60006000FD", "FE"}) {
+            ContractMachine x = new ContractMachine();
+            x.balance(2, 0, 10);
+            x.store(2, 1, 0, 7);
+            Check.code(x, 4, Code.step(0xFF, 5));
+            Check.code(x, 3, Code.step(0x55, 1, 9) + Code.step(0x55, 2, 9) + Code.step(0xA0, 0, 3) + Code.step(0x31, 10)
+                + "50" + Code.call(0xF1, 0, 8, 2) + "50" + end);
+            String before = Code.step(0x55, 1, 0) + Code.step(0x54, 3) + Code.step(0xA0, 0, 1).repeat(4)
+                + Code.step(0x31, 9) + "50"
+                + Code.call(0xF1, 0, 8, 1) + "50" + Code.call(0xF1, 9000, 4, 0) + "50";
+            check.same(end, run(x, before + Code.call(0xF4, 80000, 3, 0) + Code.TELL, 200000), 1);
+            check.same(end + " gives 0", x.word(24), 0);
+            check.same(end + ": STORAGE of before", x.stored(2, 0, 0, 0, 1, 3), 0);
+            check.same(end + ": STORAGE of it", x.stored(2, 0, 0, 0, 2, 3), 0);
+            check.same(end + ": LOGS of before", x.told(2), 4);
+            check.same(end + ": LOGS of before", x.log(3, 2), 1);
+            check.same(end + ": REFUND of before", x.told(1), 15000 + 24000);
+            check.same(end + ": BALANCE of before", x.balanceOf(2, 3), 9);
+            check.same(end + ": BALANCE of before", x.balanceOf(8, 3), 1);
+            check.same(end + ": DESTROYED before", x.codeSize(4), 0);
+            check.same(end + ": TOUCHED 1 2 9 8 4 5 and 3", x.told(5), 7);
+            check.same(end + ": places 1 and 3 of before", x.told(6), 2);
+        }
+    }
+
+    /** So many changes as gas can pay for are all taken back, in the right order. */
+    private void manyChangesTakenBack() {
+        for (String end : new String[] {"60006000FD", "FE"}) {
+            // place k gets 1, 2, 3 .. for k from 5 down to 1; what is on the STACK is the next value
+            String loop = "6000 5B 6001 01" + "80 6005 55 80 6004 55 80 6003 55 80 6002 55 80 6001 55"
+                + "61 012C 81 10 6002 57 50";
+            ContractMachine x = new ContractMachine();
+            for (int p = 1; p <= 5; p++) {
+                x.store(2, p, 0, 1000 + p);
+            }
+            check.same("run", run(x, loop + end, 200000), end.equals("FE") ? 0 : 2);
+            check.same("steps of 300 rounds", x.told(3) > 300 * 20 ? 1 : 0, 1);
+            for (int p = 1; p <= 5; p++) {
+                check.same("place " + p, x.stored(2, 0, 0, 0, p, 3), 1000 + p);
+            }
+            check.same("REFUND", x.told(1), 0);
+            check.same("without the end", run(x, loop, 200000), 1);
+            check.same("the last", x.stored(2, 0, 0, 0, 3, 3), 300);
+        }
+    }
+
     /** Too few NUMBERS on the STACK, or more than 1024 then. */
     private void tooFewAndTooMany() {
         for (int[] step : STEPS) {
@@ -132,18 +182,29 @@ public final class MessageEdgesTest {
         ContractMachine x = new ContractMachine();
         check.same("JUMP of none", run(x, "56", 5000), 0);
         check.same("JUMP of one", run(x, "6003 56 5B", 5000), 1);
+        check.same("JUMP gives none", run(x, "6003 56 5B 50", 5000), 0);
+        check.same("JUMPI gives none", run(x, "6001 6005 57 5B 50", 5000), 0);
+        check.same("JUMP leaves what is below", run(x, "6007 6005 56 5B 50", 5000), 1);
+        check.same("JUMPI leaves what is below", run(x, "6007 6001 6007 57 5B 50", 5000), 1);
         check.same("JUMP of 1024", run(x, "6000 " + "80".repeat(1022) + "610404 56 5B", 5000), 1);
         check.same("a NUMBER too many before JUMP", run(x, "6000 " + "80".repeat(1023) + "610405 56 5B", 5000), 0);
     }
 
     private void onTheStack(int op, int takes, int gives) {
         ContractMachine x = new ContractMachine();
-        String what = String.format("%02X", op);
+        boolean isPush = op >= 0x60 && op <= 0x7F;
+        String what = String.format("%02X", op) + "00".repeat(isPush ? op - 0x5F : 0);
         int how = op == 0xFD ? 2 : 1;
         check.same(what + " with what it takes", run(x, "6000".repeat(takes) + what, 50000), how);
         if (takes > 0) {
             check.same(what + " with one too few", run(x, "6000".repeat(takes - 1) + what, 50000), 0);
             check.same(what + " with none", run(x, what, 50000), 0);
+        }
+        boolean goesOn = op != 0x00 && op != 0xF3 && op != 0xFD && op != 0xFF;
+        if (goesOn) {
+            String all = "6000".repeat(takes) + what + "50".repeat(gives);
+            check.same(what + " gives " + gives, run(x, all, 50000), 1);
+            check.same(what + " gives no more", run(x, all + "50", 50000), 0);
         }
         int room = 1024 + Math.min(0, takes - gives);
         check.same(what + " on the last that is allowed", run(x, "6000" + "80".repeat(room - 1) + what, 50000), how);
@@ -273,6 +334,7 @@ public final class MessageEdgesTest {
             check.same(what, run(y, Code.call(0xFA, 150000, 4, 0, 0, 0, 0, 32) + Code.push(32) + "52"
                 + "60406000F3", 200000), 1);
             check.same(what, op == 0 ? y.word(56) : y.word(24), still);
+            check.same(what + " takes all gas or not", 200000 - y.told(0) >= 100000 ? 0 : 1, still);
             check.same(what + " changed nothing", y.balanceOf(3, 3) + y.balanceOf(4, 3), 18);
             check.same(what + " changed nothing", y.told(2) + y.told(1) + y.stored(3, 0, 0, 0, 1, 3), 0);
         }

@@ -20,6 +20,8 @@ public final class NumberEdgesTest {
         NumberEdgesTest test = new NumberEdgesTest(check);
         test.wrapping();
         test.dividing();
+        test.dividingLongOnes();
+        test.oneBehindAnother();
         test.dividingWithSign();
         test.inWhole();
         test.powers();
@@ -107,6 +109,52 @@ public final class NumberEdgesTest {
         gives(0x06, ZERO, n(7), ZERO);
         gives(0x06, ZERO, ALL, ZERO);
         gives(0x06, ZERO, ZERO, ZERO);
+    }
+
+    /** Pairs of 32 bits each where a digit of the quotient is easily guessed too high (after Hacker's Delight). */
+    private void dividingLongOnes() {
+        String[][] pairs = {{"800000000000000000000003", "200000000000000000000001"},
+            {"7FFFFFFF800000000000000000000000", "800000000000000000000001"},
+            {"80000000FFFFFFFE00000000", "80000000FFFFFFFF"}, {"80000000000000000000000000000003",
+                "200000000000000000000001"}, {"800000000000FFFE00000000", "80000000000FFFF"},
+            {"FFFFFFFE00000000", "FFFFFFFF"}, {"FFFFFFFF00000000", "FFFFFFFF"}, {"8000000000000000", "80000000"},
+            {"7FFFFFFFFFFFFFFF", "80000000"}, {"FFFFFFFFFFFFFFFFFFFFFFFE", "FFFFFFFFFFFFFFFF"},
+            {"8000000000000000FFFFFFFF00000000", "8000000000000000FFFFFFFF"},
+            {"7FFFFFFFFFFFFFFF0000000000000000", "80000000000000000000000000000001".substring(8)},
+            {"FFFFFFFF00000001000000000000000000000000FFFFFFFFFFFFFFFFFFFFFFFF", "FFFFFFFF00000001"},
+            {"FFFFFFFFFFFFFFFFFFFFFFFFFFFFFFFEBAAEDCE6AF48A03BBFD25E8CD0364141", "100000000000000000000000000000001"}};
+        for (String[] pair : pairs) {
+            BigInteger a = new BigInteger(pair[0], 16);
+            BigInteger b = new BigInteger(pair[1], 16);
+            for (int k = 0; k + a.bitLength() <= 256; k += 13) {
+                BigInteger c = a.shiftLeft(k);
+                gives(0x04, c.divide(b), c, b);
+                gives(0x06, c.mod(b), c, b);
+                gives(0x08, c.add(ALL).mod(b), c, ALL, b);
+                gives(0x09, c.multiply(ALL).mod(b), c, ALL, b);
+                gives(0x09, c.multiply(c).mod(a), c, c, a);
+                gives(0x09, ALL.multiply(ALL.subtract(a)).mod(c), ALL, ALL.subtract(a), c);
+            }
+        }
+    }
+
+    /** What a longer sum left behind within the machine does not come into a shorter one. */
+    private void oneBehindAnother() {
+        String all = Code.ALL;
+        String[] longer = {all + all + all + "09 50", all + all + "02 50", "6001" + all + "04 50",
+            "6003" + all + all + "08 50", all + all + "0A 50", "6007" + all + "06 50"};
+        String[] shorter = {"6002 6008 04", "6005 6009 06", "6003 6004 6005 08", "6006 6005 6002 09", "6002 6002 0A",
+            "6002 6002 02", "6002 6008 05", "6005 6009 07", "68010000000000000000 6004 04"};
+        long[] due = {4, 4, 0, 4, 4, 4, 4, 4, 0};
+        for (String first : longer) {
+            for (int k = 0; k < shorter.length; k++) {
+                ContractMachine x = new ContractMachine();
+                Check.code(x, 2, first + shorter[k] + Code.TELL);
+                check.same("run", Check.run(x, 1, 2, 0, 9000), 1);
+                check.same(first + shorter[k], x.word(24), due[k]);
+                check.same(first + shorter[k] + " above", x.word(0) | x.word(8) | x.word(16), 0);
+            }
+        }
     }
 
     private void dividingWithSign() {

@@ -209,6 +209,7 @@ public final class StepEdgesTest {
         for (long[] one : sizes) {
             check.same("run", run(x, Code.step(0x3B, one[0]) + Code.TELL), 1);
             check.same("EXTCODESIZE of " + one[0], x.word(24), one[1]);
+            check.same("EXTCODESIZE of " + one[0] + " above", x.word(0) | x.word(8) | x.word(16), 0);
         }
         check.same("run", run(x, "38" + Code.TELL), 1);
         check.same("CODESIZE", x.word(24), 9);
@@ -247,6 +248,8 @@ public final class StepEdgesTest {
             String what = "kind " + kind + ": ";
             run(x, Code.step(0x3F, 9) + Code.TELL);
             check.same(what + "EXTCODEHASH", x.word(0), isDead ? 0 : hasCode ? stop : empty);
+            boolean isNothing = (x.word(8) | x.word(16) | x.word(24)) == 0;
+            check.same(what + "EXTCODEHASH in whole", isNothing ? 1 : 0, isDead ? 1 : 0);
             run(x, Code.call(0xF1, 0, 9, 0));
             check.same(what + "CALL without a value", 200000 - x.told(0), 21 + 2600);
             run(x, Code.call(0xF2, 0, 9, 1));
@@ -419,6 +422,14 @@ public final class StepEdgesTest {
         check.same("of the other", x.stored(3, 0, 0, 0, 7, 3), 0);
         run(x, Code.step(0x55, 7, 3));
         check.same("in the next RUN", 200000 - x.told(0), 6 + 2200);
+        // 0 at a place that never was: no REFUND, whatever else there is
+        ContractMachine y = new ContractMachine();
+        for (int k = 0; k < 64; k++) {
+            y.balance(2 + k, 0, 5 + k);
+        }
+        run(y, Code.step(0x55, 7, 0));
+        check.same("0 at a new place", y.told(1), 0);
+        check.same("0 at a new place", 200000 - y.told(0), 6 + 2200);
     }
 
     private void logs() {

@@ -145,6 +145,9 @@ public final class ThrowEdgesTest {
                 check.same("codeSize", x.codeSize(Long.MAX_VALUE), 0);
             }
         }
+        ContractMachine zero = machine();
+        check.same("code of address 0", zero.code(0), 7);
+        check.same("codeSize of address 0", zero.codeSize(0), 7);
         // what was refused takes no ACCOUNT
         ContractMachine y = machine();
         Check.tape(y, new byte[2049]);
@@ -330,6 +333,22 @@ public final class ThrowEdgesTest {
         }
         check.same("logWord(0, 2)", x.logWord(0, 2), 0xFF00000000000000L);
         check.same("logWord(0, 0)", x.logWord(0, 0), 0xFFFFFF0000000000L);
+        // of the latest RUN alone, also when those before had more
+        for (int many = 3; many >= 0; many--) {
+            for (int k = 0; k < 3; k++) {
+                Check.code(x, 2, Code.step(0xA1, 0, 9, 4).repeat(many));
+                Check.run(x, 1, 2, 0, 9000);
+                for (int i = 0; i < 4; i++) {
+                    int which = i;
+                    if (i < many) {
+                        check.same("log " + i + " of " + many, x.log(i, 2) + x.log(i, 3) + x.logWord(i, 8), 13);
+                    } else {
+                        check.thrown("log " + i + " of " + many, NONE, () -> x.log(which, 3));
+                        check.thrown("logWord " + i + " of " + many, NONE, () -> x.logWord(which, 0));
+                    }
+                }
+            }
+        }
     }
 
     private void words() {
